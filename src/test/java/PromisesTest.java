@@ -141,6 +141,7 @@ public final class PromisesTest {
     check.is("like at first", x.like(0, 1, 9), 0);
     check.is("like before", x.like(0, 1, 4), 9);
     check.is("the other one's like", x.like(1, 0, 5), 0);
+    check.is("the other one's like before", x.like(1, 0, 5), 5);
     check.is("like before", x.like(0, 1, 0), 4);
     check.fails("house 3", NO_SUCH, () -> x.like(3, 0, 1));
     check.fails("neighbour -1", NO_SUCH, () -> x.like(0, -1, 10));
@@ -331,6 +332,14 @@ public final class PromisesTest {
     isWay("the own one ahead of all", z, 0, "0");
     z.like(0, 1, 9);
     isWay("even of the liked ones", z, 0, "0");
+    // 0 can go to 9 by 1, an equal, far round, or by 9, who is paid, at once.
+    Valleyfree far = world(10, "09c 01e 21c 32c 43c 54c 65c 76c 87c 98c");
+    far.say(9, 0, -1);
+    isWay("a far better rank ahead of a near one", far, 0, "0123456789");
+    far.like(0, 9, 1);
+    isWay("a little like ahead of both", far, 0, "09");
+    far.like(0, 1, 1);
+    isWay("both liked", far, 0, "0123456789");
   }
 
   private void tellings() {
@@ -390,6 +399,13 @@ public final class PromisesTest {
     x.say(2, 1, 1);
     x.filter(1, 'o', true);
     isWay("others go without it, too", x, 3, 1, 1, "none");
+    x.sign(1, 2, true);
+    isWay("signed for its origin with halves", x, 3, 1, 1, "312");
+    x.sign(0, 2, false);
+    isWay("another block's signing is another one", x, 3, 1, 1, "312");
+    x.sign(0, 2, true);
+    x.sign(1, 2, false);
+    isWay("without halves", x, 3, 1, 1, "none");
 
     check.promise(8, "filter by lock");
     // 0 pays 1; 2 leaks 1's ways to its equal 0.
@@ -420,6 +436,15 @@ public final class PromisesTest {
     isWay("refused from a sibling", s, 0, "none");
     s.filter(0, 'l', false);
     isWay("not refused", s, 0, "012");
+    Valleyfree t = world(4, "23c 12s 13s 01s");
+    t.say(3, 0, -1);
+    t.cut(0, true);
+    t.filter(0, 'l', true);
+    t.filter(2, 'l', true);
+    isWay("one that pays nobody refuses nothing", t, 0, "013");
+    isWay("one that pays the origin refuses", t, 2, "none");
+    t.cut(0, false);
+    isWay("but not what comes from the one that it pays", t, 2, "23");
   }
 
   private void traffic() {
@@ -493,6 +518,8 @@ public final class PromisesTest {
     check.is("the land of their origin", x.abroad(3, 0), 0);
     x.say(4, 4, -1);
     check.is("ways to another land", x.abroad(4, -1), 0);
+    x.say(2, 5, 0);
+    check.is("from house 0, too", x.abroad(5, 0), 1);
     check.fails("block 8", BAD, () -> x.abroad(8, 0));
     check.fails("half 2", BAD, () -> x.abroad(0, 2));
 
@@ -917,18 +944,18 @@ public final class PromisesTest {
     uses();
 
     check.promise(42, "bill");
-    Valleyfree y = world(3, "01c 12e 02s");
-    check.is("at first", y.bill(0), 0);
-    y.terms(0, 3, 50);
-    check.is("the commit", y.bill(0), 150);
-    y.sample(0, 49, 20);
-    check.is("the commit still", y.bill(0), 150);
-    y.sample(0, 1, 60);
-    check.is("the use", y.bill(0), 180);
-    y.terms(0, 999, 0);
-    y.sample(0, 9999, 0);
-    check.is("the greatest one", y.bill(0), 9989001);
-    check.fails("no link c, but e", UNFIT, () -> y.bill(1));
+    Valleyfree y = world(3, "12e 01c 02s");
+    check.is("at first", y.bill(1), 0);
+    y.terms(1, 3, 50);
+    check.is("the commit", y.bill(1), 150);
+    y.sample(1, 49, 20);
+    check.is("the commit still", y.bill(1), 150);
+    y.sample(1, 1, 60);
+    check.is("the use", y.bill(1), 180);
+    y.terms(1, 999, 0);
+    y.sample(1, 9999, 0);
+    check.is("the greatest one", y.bill(1), 9989001);
+    check.fails("no link c, but e", UNFIT, () -> y.bill(0));
     check.fails("no link c, but s", UNFIT, () -> y.bill(2));
     check.fails("link 3", NO_SUCH, () -> y.bill(3));
     check.fails("link -1", NO_SUCH, () -> y.bill(-1));
@@ -948,57 +975,61 @@ public final class PromisesTest {
 
   private void uses() {
     check.promise(41, "use");
-    Valleyfree x = world(2, "01s");
-    check.is("without samples", x.use(0), 0);
-    x.sample(0, 3, 5);
-    check.is("the greater amount", x.use(0), 5);
-    x.sample(0, 8, 5);
-    check.is("the greatest one", x.use(0), 8);
+    Valleyfree x = world(3, "12e 01s");
+    check.is("without samples", x.use(1), 0);
+    x.sample(1, 3, 5);
+    check.is("the greater amount", x.use(1), 5);
+    x.sample(1, 8, 5);
+    check.is("the greatest one", x.use(1), 8);
     for (int i = 3; i <= 19; i++) {
-      x.sample(0, 0, 100 + i);
+      x.sample(1, 0, 100 + i);
     }
-    check.is("of nineteen none is taken away", x.use(0), 119);
-    x.sample(0, 50, 50);
-    check.is("of twenty one", x.use(0), 118);
+    check.is("of nineteen none is taken away", x.use(1), 119);
+    x.sample(1, 50, 50);
+    check.is("of twenty one", x.use(1), 118);
     for (int i = 21; i <= 39; i++) {
-      x.sample(0, 200 - i, 0);
+      x.sample(1, 200 - i, 0);
     }
-    check.is("of thirty-nine one", x.use(0), 178);
-    x.sample(0, 0, 0);
-    check.is("of forty two", x.use(0), 177);
+    check.is("of thirty-nine one", x.use(1), 178);
+    x.sample(1, 0, 0);
+    check.is("of forty two", x.use(1), 177);
     for (int i = 41; i <= 60; i++) {
-      x.sample(0, 179, 179);
+      x.sample(1, 179, 179);
     }
-    check.is("of sixty three, of like ones", x.use(0), 179);
-    check.fails("link 1", NO_SUCH, () -> x.use(1));
+    check.is("of sixty three, of like ones", x.use(1), 179);
+    check.is("another link", x.use(0), 0);
+    x.sample(0, 7, 6);
+    check.is("its own samples alone", x.use(0), 7);
+    check.is("and these stand", x.use(1), 179);
+    check.fails("link 2", NO_SUCH, () -> x.use(2));
     check.fails("link -1", NO_SUCH, () -> x.use(-1));
   }
 
   private void quarrels() {
     check.promise(44, "quarrels");
-    Valleyfree x = world(3, "01e 12c 02s");
-    check.is("without samples", x.quarrels(0, 10), false);
-    x.sample(0, 10, 20);
-    check.is("ten times 20 is twenty times 10", x.quarrels(0, 20), false);
-    check.is("and more than nineteen times", x.quarrels(0, 19), true);
-    x.sample(0, 0, 1);
-    check.is("by the sums", x.quarrels(0, 20), true);
-    check.is("210 against 210", x.quarrels(0, 21), false);
-    x.sample(0, 200, 0);
-    check.is("2100 against 2079", x.quarrels(0, 99), true);
-    x.clearSamples(0);
-    check.is("cleared", x.quarrels(0, 10), false);
-    x.sample(0, 1, 0);
-    check.is("more than nothing", x.quarrels(0, 99), true);
-    x.sample(0, 0, 1);
-    check.is("as much", x.quarrels(0, 10), false);
+    Valleyfree x = world(3, "12c 01e 02s");
+    check.is("without samples", x.quarrels(1, 10), false);
+    x.sample(1, 10, 20);
+    check.is("ten times 20 is twenty times 10", x.quarrels(1, 20), false);
+    check.is("and more than nineteen times", x.quarrels(1, 19), true);
+    x.sample(1, 0, 1);
+    check.is("by the sums", x.quarrels(1, 20), true);
+    check.is("210 against 210", x.quarrels(1, 21), false);
+    x.sample(1, 200, 0);
+    check.is("2100 against 2079", x.quarrels(1, 99), true);
+    x.clearSamples(1);
+    check.is("cleared", x.quarrels(1, 10), false);
+    x.sample(1, 1, 0);
+    check.is("more than nothing", x.quarrels(1, 99), true);
+    x.sample(1, 0, 1);
+    check.is("as much", x.quarrels(1, 10), false);
     for (int i = 3; i <= 60; i++) {
-      x.sample(0, 9999, i % 2);
+      x.sample(1, 9999, i % 2);
     }
-    check.is("much", x.quarrels(0, 99), true);
-    check.fails("ratio 9", BAD, () -> x.quarrels(1, 9));
-    check.fails("ratio 100", BAD, () -> x.quarrels(0, 100));
-    check.fails("no link e, but c", UNFIT, () -> x.quarrels(1, 10));
+    check.is("much", x.quarrels(1, 99), true);
+    check.fails("ratio 9", BAD, () -> x.quarrels(0, 9));
+    check.fails("ratio 100", BAD, () -> x.quarrels(1, 100));
+    check.fails("no link e, but c", UNFIT, () -> x.quarrels(0, 10));
     check.fails("no link e, but s", UNFIT, () -> x.quarrels(2, 99));
     check.fails("link 3", NO_SUCH, () -> x.quarrels(3, 9));
     check.fails("link -1", NO_SUCH, () -> x.quarrels(-1, 10));
