@@ -800,6 +800,15 @@ public final class PromisesTest {
     return x;
   }
 
+  /** Looks for 012, 013 and 123. */
+  private static void lookForThree(Valleyfree x) {
+    x.look(0, 2, -1);
+    x.look(0, 3, -1);
+    x.cut(2, true);
+    x.look(1, 3, -1);
+    x.cut(2, false);
+  }
+
   private void exactNames() {
     check.promise(32, "areNameable");
     Valleyfree x = voters();
@@ -844,6 +853,26 @@ public final class PromisesTest {
     late.look(0, 0, 0);
     check.is("down", late.exact(0), '<');
     check.is("as it goes down there", late.exact(1), '>');
+
+    // If 1 paid 0, 2 and 3 would pay 1, 3 would pay 2, and 231 would go down, then up.
+    Valleyfree bound = world(4, "10s 12s 13s 23s");
+    for (int house = 0; house < 4; house++) {
+      bound.addWindow(house);
+      bound.say(house, house, -1);
+    }
+    lookForThree(bound);
+    check.is("three ways bind nothing", bound.exact(0), '<');
+    bound.cut(1, true);
+    check.is("four ways are seen", bound.look(2, 1, -1), 4);
+    bound.cut(1, false);
+    check.is("it can be named", bound.areNameable(), true);
+    check.is("the lowest one is bound", bound.exact(0), '>');
+    check.is("the next one is free", bound.exact(1), '<');
+    check.is("and so is the third one", bound.exact(2), '<');
+    check.is("and the last one", bound.exact(3), '<');
+    bound.forget();
+    lookForThree(bound);
+    check.is("a way that is forgotten binds nothing", bound.exact(0), '<');
 
     check.promise(34, "fewest");
     check.is("none is seen", new Valleyfree().fewest(), 0);
