@@ -1,15 +1,54 @@
+import java.io.IOException;
+import java.nio.file.Files;
+import java.nio.file.Path;
+
 /** Counts answers that are not the ones that are due, and prints them. */
 final class Check {
+  private static final Path DOCUMENT = Path.of("../shared/DOC.md");
+
   interface Call {
     void run();
   }
 
-  private String promise = "";
+  private String label = "";
+  private String document = "";
   private int checks = 0;
   private int faults = 0;
 
+  void about(String what) {
+    label = what;
+  }
+
   void promise(int number, String name) {
-    promise = "promise " + number + " (" + name + ")";
+    about("promise " + number + " (" + name + ")");
+  }
+
+  /** What is checked from now on stands in the document with these very words. */
+  void sentence(String words) {
+    label = "\"" + words + "\"";
+    if (!document().contains(words)) {
+      tell("the document", "has no such words", "");
+    }
+  }
+
+  /** The document with one space wherever it has spaces and ends of lines. */
+  private String document() {
+    if (document.isEmpty()) {
+      try {
+        document = Files.readString(DOCUMENT).replaceAll("\\s+", " ");
+      } catch (IOException e) {
+        throw new IllegalStateException(e);
+      }
+    }
+    return document;
+  }
+
+  void is(String what, String got, String due) {
+    tell(what, got, due);
+  }
+
+  void holds(String what, boolean holds) {
+    tell(what, holds ? "so" : "not so", "so");
   }
 
   void is(String what, long got, long due) {
@@ -50,7 +89,7 @@ final class Check {
     checks++;
     if (!got.equals(due)) {
       faults++;
-      System.out.println(promise + ": " + what + " answered " + got + ", due is " + due);
+      System.out.println(label + ": " + what + " answered " + got + ", due is " + due);
     }
   }
 }
