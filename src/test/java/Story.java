@@ -141,7 +141,7 @@ final class Story {
     return story;
   }
 
-  /** A window at each of the first houses; each of the others speaks, too, by its own number. */
+  /** Each house says that it has the number of its own number; the first ones have windows. */
   Story windows(int windows) {
     Story longer = and();
     for (int house = 0; house < count("addHouse"); house++) {
