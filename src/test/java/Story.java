@@ -198,7 +198,7 @@ final class Story {
         .links("01c 12e 23s 43c 41c 05s 24e").likes("014 109 431")
         .and("leak 2 true", "filter 3 o true", "filter 4 l true", "filter 1 o true", "cut 6 true",
             "say 0 0 -1", "say 0 0 0", "say 3 1 1", "say 1 7 -1", "say 1 7 0", "say 5 7 1",
-                        "sign 0 0 false", "sign 7 1 true",
+            "sign 0 0 false", "sign 7 1 true",
             "addWindow 5", "addWindow 2", "look 0 7 -1", "look 1 0 -1",
             "terms 0 7 50", "terms 3 9 1",
             "sample 0 19 3", "sample 3 40 8", "sample 1 10 35", "sample 2 0 9999",
